@@ -258,6 +258,18 @@ public final class OptionTest {
     }
 
     private static void roomForVector() {
+        // twelve CONFIRMS of 6 bytes, 28 bytes of CHANGES, 2 and a byte a row for the VECTOR
+        FlowTalk x = crowded(12, 0, 7);
+        Check.due("17 rows have room", x.octet(0, 1), 119);
+        x = crowded(12, 0, 8);
+        Check.due("19 rows have none: no VECTOR", x.octet(0, 1), 100);
+        Check.due("all CONFIRMS went", x.count(1, 13), 0);
+        x = crowded(11, 1, 9);
+        Check.due("120 bytes have room", x.octet(0, 1), 120);
+    }
+
+    /** End 1 has all CHANGES, these CONFIRMS with a LIST and with nothing, and gaps to tell of. */
+    private static FlowTalk crowded(int withList, int withNothing, int gaps) {
         FlowTalk x = Wire.opened();
         x.want(1, 1, true, 1, 30);
         x.want(1, 2, true, 1, 3);
@@ -265,30 +277,13 @@ public final class OptionTest {
         x.want(1, 4, true, 2, 0x201);
         x.want(1, 3, false, 2, 1);
         x.want(1, 4, false, 2, 0x201);
-        int[] twelve = new int[12 * 5];
-        for (int i = 0; i < 12; i++) {
-            twelve[5 * i] = 2;
-            twelve[5 * i + 1] = 5;
-            twelve[5 * i + 2] = 3;
-            twelve[5 * i + 3] = 1;
-        }
-        // 72 bytes of CONFIRMS, 28 of CHANGES: 18 rows have room, and no more
-        for (int i = 0; i < 7; i++) Wire.post(x, 1, Wire.packet(Wire.DATA, 104 + 2 * i, 0, Wire.NONE));
-        Wire.post(x, 1, Wire.packet(Wire.ACK, 118, 201, twelve));
+        int[] options = {};
+        for (int i = 0; i < withList; i++) options = Wire.join(options, new int[] {2, 5, 3, 1, 0});
+        for (int i = 0; i < withNothing; i++) options = Wire.join(options, new int[] {2, 4, 9, 9});
+        for (int i = 0; i < gaps; i++) Wire.post(x, 1, Wire.packet(Wire.DATA, 104 + 2 * i, 0, Wire.NONE));
+        Wire.post(x, 1, Wire.packet(Wire.ACK, 104 + 2 * gaps, 201, options));
         x.tick(1);
-        Check.due("17 rows and all else", x.octet(0, 1), 119);
-        x = Wire.opened();
-        x.want(1, 1, true, 1, 30);
-        x.want(1, 2, true, 1, 3);
-        x.want(1, 3, true, 2, 1);
-        x.want(1, 4, true, 2, 0x201);
-        x.want(1, 3, false, 2, 1);
-        x.want(1, 4, false, 2, 0x201);
-        for (int i = 0; i < 8; i++) Wire.post(x, 1, Wire.packet(Wire.DATA, 104 + 2 * i, 0, Wire.NONE));
-        Wire.post(x, 1, Wire.packet(Wire.ACK, 120, 201, twelve));
-        x.tick(1);
-        Check.due("19 rows have no room: no VECTOR", x.octet(0, 1), 100);
-        Check.due("all CONFIRMS went", x.count(1, 13), 0);
+        return x;
     }
 
     private static void vectorsOff() {

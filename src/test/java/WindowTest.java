@@ -78,23 +78,37 @@ public final class WindowTest {
     }
 
     private static void lost() {
-        FlowTalk x = Wire.opened();
+        lost(Wire.opened(), 100);
+        FlowTalk x = new FlowTalk(-10L, 200L, 0);
+        x.listen();
+        x.open();
+        x.tick(8);
+        // RECOVER is 0 in this one
+        lost(x, -10);
+    }
+
+    private static void lost(FlowTalk x, long first) {
         give(x, 3);
         x.tick(1);
-        told(x, 105, 2);
+        told(x, first + 5, 2);
         is("three told", x, 0, 6, 64, 8, 0);
         give(x, 5);
         x.tick(2);
         is("five go", x, 5, 6, 64, 8, 0);
-        told(x, 107, 0);
-        told(x, 109, 0);
-        Check.due("two behind it: not LOST", x.sent(0, 106), 1);
+        told(x, first + 7, 0);
+        told(x, first + 9, 0);
+        Check.due("two behind it: not LOST", x.sent(0, first + 6), 1);
         Check.due("no RECOVER", x.number(0, 5), -1);
-        told(x, 110, 0);
-        Check.due("three behind it: LOST", x.sent(0, 106), 3);
-        Check.due("108 has two", x.sent(0, 108), 1);
+        told(x, first + 10, 0);
+        Check.due("three behind it: LOST", x.sent(0, first + 6), 3);
+        Check.due("the next one has two", x.sent(0, first + 8), 1);
         is("halved, from 9", x, 1, 4, 4, 8, 0);
-        Check.due("RECOVER is NEXT - 1", x.number(0, 5), 110);
+        Check.due("RECOVER is NEXT - 1", x.number(0, 5), first + 10);
+        give(x, 1);
+        x.tick(1);
+        told(x, first + 11);
+        Check.due("three behind that: LOST", x.sent(0, first + 8), 3);
+        is("not AFTER RECOVER: not halved", x, 0, 4, 4, 8, 1);
     }
 
     private static void lostOnceAWindow() {
