@@ -387,6 +387,7 @@ public final class EndEdgesTest {
         comes(x, 1, Wire.packet(Wire.ACK, high + 5, vector + 3, new int[] {6, 3, 63}));
         Check.due("a VECTOR beyond FIRST", x.number(1, 4) * 10 + x.state(1), 1035);
         baseByVectorsAlone();
+        baseBehindNext();
     }
 
     /** Packets in which there was no VECTOR, and numbers that it never sent, move no BASE, wherever numbers begin. */
@@ -406,6 +407,21 @@ public final class EndEdgesTest {
             comes(x, 1, Wire.packet(Wire.ACK, x.number(1, 2) + 1, x.number(1, 0) - 1, new int[] {6, 6, 63, 63, 63, 63}));
             Check.due("DATA is told", x.count(1, 0), 0);
             Check.due("BASE is MET", x.number(1, 4), x.number(1, 3));
+        }
+    }
+
+    /** What the document leaves open: a VECTOR is remembered as long as SENT is. */
+    private static void baseBehindNext() {
+        for (int behind = 254; behind <= 256; behind++) {
+            FlowTalk x = got(101, 102);
+            Wire.silence(x);
+            long vector = x.number(1, 0) - 1;
+            send(x, 1, behind - 1);
+            Check.due("NEXT", x.number(1, 0), vector + behind);
+            // from NEXT - 1 downwards, to it and no more
+            int[] rows = {63, 63, 63, behind - 1 - 192};
+            comes(x, 1, Wire.packet(Wire.ACK, x.number(1, 2) + 1, x.number(1, 0) - 1, Wire.join(new int[] {6, 6}, rows)));
+            Check.due(behind + " behind NEXT: BASE", x.number(1, 4), behind < 256 ? 103 : 100);
         }
     }
 

@@ -439,6 +439,16 @@ public final class FlightEdgesTest {
         Wire.post(x, 0, Wire.packet(Wire.ACK, 202, next + 2, new int[] {77, 5, 6, 3, 1}));
         x.tick(1);
         Check.due("a VECTOR inside another option is none", x.sent(0, next + 1), 1);
+        for (int options = 0; options < 3; options++) {
+            x = Wire.opened();
+            next = x.number(0, 0);
+            give(x, 0, 3);
+            x.tick(1);
+            Wire.silence(x);
+            Wire.post(x, 0, Wire.packet(Wire.BOTH, 202, next + 2, new int[options], 6, 3, 2));
+            x.tick(1);
+            Check.due("DATA that look like a VECTOR are none", x.sent(0, next + 1) * 10 + x.count(0, CWND), 14);
+        }
     }
 
     /** Numbers that were never sent, or are not in SENT, change nothing. */
