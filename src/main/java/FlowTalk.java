@@ -34,6 +34,8 @@ public final class FlowTalk {
     private static final int MOST_ON_WAY = 60, MOST_TO_SEND = 20, MOST_KEPT = 40, MOST_CONFIRMS = 12;
     private static final int MOST_TICKS = 50, FED_AT_ONCE = 20;
     private static final int RING = 256, RING_MASK = 255;
+    // the deepest number that can be told: an ACK 255 behind NEXT, 40 rows of 64 from there: 2814 behind NEXT
+    private static final int OWN_RING = 4096, OWN_MASK = 4095;
 
     private final Link link;
     private final End[] ends = new End[2];
@@ -731,8 +733,8 @@ public final class FlowTalk {
         long base;
         /** 1 where a number is got; those less than 256 behind HIGH have a place each. */
         private final byte[] marks = new byte[RING];
-        /** By own numbers: HIGH when a VECTOR went in that packet, -1 for none. */
-        private final long[] highThen = new long[RING];
+        /** By own numbers, those since FIRST: HIGH when a VECTOR went in that packet, -1 for none. */
+        private final long[] highThen = new long[OWN_RING];
 
         void restart() {
             any = false;
@@ -740,7 +742,6 @@ public final class FlowTalk {
             high = 0;
             base = 0;
             Arrays.fill(marks, (byte) 0);
-            Arrays.fill(highThen, -1L);
         }
 
         void meet(long n) {
@@ -801,11 +802,12 @@ public final class FlowTalk {
         }
 
         void noteOwn(long own, boolean withVector) {
-            highThen[(int) (own & RING_MASK)] = withVector ? high : -1;
+            highThen[(int) (own & OWN_MASK)] = withVector ? high : -1;
         }
 
+        /** Only for numbers sent since FIRST: what stands for others is of an earlier life. */
         void ownIsTold(long own) {
-            long then = highThen[(int) (own & RING_MASK)];
+            long then = highThen[(int) (own & OWN_MASK)];
             if (then < 0) return;
             long above = (then + 1) & MASK;
             if (isAfter(above, base)) base = above;
@@ -1178,9 +1180,9 @@ public final class FlowTalk {
             for (int i = 0; i < run; i++) {
                 long n = (top - i) & MASK;
                 long behind = (next - n) & MASK;
-                if (behind < 1 || behind >= RING) return;
+                if (behind < 1 || behind >= OWN_RING || isAfter(first, n)) return;
                 receipts.ownIsTold(n);
-                flight.isTold(n, link.time);
+                if (behind < RING) flight.isTold(n, link.time);
             }
         }
 

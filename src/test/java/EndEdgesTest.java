@@ -410,18 +410,22 @@ public final class EndEdgesTest {
         }
     }
 
-    /** What the document leaves open: a VECTOR is remembered as long as SENT is. */
+    /** SENT ends 256 behind NEXT; that a packet with a VECTOR is told moves BASE beyond that, too. */
     private static void baseBehindNext() {
-        for (int behind = 254; behind <= 256; behind++) {
+        for (int behind = 254; behind <= 258; behind++) {
             FlowTalk x = got(101, 102);
             Wire.silence(x);
             long vector = x.number(1, 0) - 1;
             send(x, 1, behind - 1);
             Check.due("NEXT", x.number(1, 0), vector + behind);
-            // from NEXT - 1 downwards, to it and no more
-            int[] rows = {63, 63, 63, behind - 1 - 192};
-            comes(x, 1, Wire.packet(Wire.ACK, x.number(1, 2) + 1, x.number(1, 0) - 1, Wire.join(new int[] {6, 6}, rows)));
-            Check.due(behind + " behind NEXT: BASE", x.number(1, 4), behind < 256 ? 103 : 100);
+            Check.due(behind + " behind NEXT: SENT", x.sent(1, vector), behind < 256 ? 0 : -1);
+            // from NEXT - 1 downwards, to the one above it and no more, then to it
+            for (int more = 0; more < 2; more++) {
+                int left = behind - 2 - 192 + more;
+                int[] rows = {6, 7, 63, 63, 63, Math.min(left, 63), left > 63 ? left - 64 : 192};
+                comes(x, 1, Wire.packet(Wire.ACK, x.number(1, 2) + 1, x.number(1, 0) - 1, rows));
+                Check.due(behind + " behind NEXT, told: " + more + ": BASE", x.number(1, 4), more == 0 ? 100 : 103);
+            }
         }
     }
 

@@ -140,7 +140,6 @@ final class Model {
             if (vectorOf != null) vectors.put(next, vectorOf);
             next = around(next + 1);
             sent.keySet().removeIf(n -> around(next - n) >= 256);
-            vectors.keySet().removeIf(n -> around(next - n) >= 256);
             sends++;
             if (kind == 3 || kind == 4) dataCame = 0;
             if (kind == 8) lastSync = time;
